@@ -79,6 +79,7 @@ public final class NestQuery {
     private final Patch sinceImage = new Patch();
     private final TextOut text = new TextOut();
     private final long[] answers = new long[MOST_PATHS];
+    private final Draws draws = new Draws();
 
     public NestQuery() {
         now.tree.addThing(MAP, 0, 0, 0);
@@ -345,10 +346,10 @@ public final class NestQuery {
         if (n < 0 || n > MOST_YEARS) {
             throw new IllegalArgumentException("no such number of years");
         }
-        Draws draws = new Draws(seed);
+        draws.begin(seed);
         int done = 0;
         for (int year = 0; year < n; year++) {
-            if (oneYear(draws) != NONE) {
+            if (oneYear() != NONE) {
                 done++;
             }
         }
@@ -429,7 +430,7 @@ public final class NestQuery {
     }
 
     // What can't be within a year is no refused call: STATUS stays.
-    private int oneYear(Draws draws) {
+    private int oneYear() {
         int act = draws.next(5);
         if (act == 0) {
             int slot = draws.next(MOST_PATHS);
@@ -565,8 +566,8 @@ public final class NestQuery {
     private static final class Draws {
         private int seed;
 
-        Draws(int seed) {
-            this.seed = seed;
+        void begin(int first) {
+            seed = first;
         }
 
         int next(int n) {
@@ -856,8 +857,8 @@ public final class NestQuery {
 
         /** The other tree's thing and all within it come in at a number; false if there is no room. */
         boolean graft(int at, int depth, int key, Tree other, int from) {
-            int length = other.sizeOf(from);
-            if (length < 1 || at < 0 || at > size || size + length > kinds.length) {
+            int length = other.end(from) - from + 1;
+            if (!other.has(from) || length < 1 || at < 0 || at > size || size + length > kinds.length) {
                 return false;
             }
             copyFrom(this, at, at + length, size - at);

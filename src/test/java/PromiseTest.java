@@ -225,6 +225,22 @@ public final class PromiseTest {
         Probe.due("answers", Probe.answers(x, 2), "5");
         Probe.due("8 steps", Probe.path(x, 2, "........?(@)?(@)?(@)?(@)"), 0);
         Probe.due("are there", x.steps(2, -1), 8);
+        // However often paths are compiled anew, nothing of the old ones is left.
+        String much = "?(!!!!!@|!!!!!@.b[0]=2|!!!!!@|!!!!!@&!!!!!@.b[2].a=3|!!!!!@|!!!!!@|!!!!!@|!!!!!@|!!!!!@|!!!!!@)..";
+        for (int k = 0; k < 30; k++) {
+            Probe.due("much", Probe.path(x, 2, much), 0);
+            Probe.due("its answers", x.answer(2, -1), 0);
+            Probe.due("much", Probe.path(x, 2, much.replace("!!!!!", "!!!!")), 0);
+            Probe.due("its answers", x.answer(2, -1), 8);
+            Probe.due("a fault", Probe.path(x, 2, much + "a"), 1);
+            Probe.due("its answers", x.answer(2, -1), 8);
+        }
+        StringBuilder far = new StringBuilder("?(@");
+        for (int k = 0; k < 198; k++) {
+            far.append(".b");
+        }
+        Probe.due("as long as a tape", Probe.path(x, 2, far.append(")").toString()), 0);
+        Probe.due("leads nowhere", x.answer(2, -1), 0);
     }
 
     private static void pathFault(NestQuery x, String text, int fault, int place) {
@@ -675,6 +691,11 @@ public final class PromiseTest {
         putIs(big, "?(@)[38:]", "[1,1,1,1,1,1,1]", -1, big);
         putIs(big, "[39:]", "[1,1,1,1,1,1,1]", 2,
                 ones(39).replace("]", ",[1,1,1,1,1,1,1],[1,1,1,1,1,1,1]]"));
+        putIs(ones(59), "[-1]", "x", 1, ones(59).replace("1]", "x]"));
+        putIs(ones(59), "[-1]", "[]", 1, ones(59).replace("1]", "[]]"));
+        putIs("{}", "", ones(59), 1, ones(59));
+        putIs("[1]", "[0]", ones(58), 1, "[" + ones(58) + "]");
+        putIs("[1]", "[0]", ones(59), -1, "[1]");
         NestQuery x = Probe.with("[1]");
         Probe.feed(x, "[1,");
         Probe.due("no such path is there", x.put(0, 3), -1);
@@ -708,6 +729,11 @@ public final class PromiseTest {
         appendIs(ones(58), "", "1", 1, ones(59));
         appendIs(ones(58), "", "[1]", -1, ones(58));
         appendIs(ones(59), "", "1", -1, ones(59));
+        String full = ones(59).replace("1]", "[]]");
+        appendIs(full, "[-1]", "1", -1, full);
+        String list = "[" + ones(17) + "]";
+        appendIs("[[],[],[]]", ".*", ones(17), 3, "[" + list + "," + list + "," + list + "]");
+        appendIs("[[],[],[]]", ".*", ones(18), -1, "[[],[],[]]");
         NestQuery x = Probe.with("[1]");
         Probe.due("no such path is there", Probe.append(x, 1, "[1,"), -1);
         Probe.due("the text isn't read then", x.fault() * 10 + x.count(12), -10);
@@ -730,6 +756,14 @@ public final class PromiseTest {
         keyIs("{a:{b:{c:1}}}", "..", "b", "{}", 3, "{a:{b:{}},b:{}}");
         keyIs("{a:{a:{a:{}}}}", "..", "a", "7", 4, "{a:7}");
         keyIs("{a:{a:{a:{a:{a:{a:{a:{}}}}}}}}", "..", "a", "[[7]]", 8, "{a:[[7]]}");
+        // Those within what another one has by the KEY are gone then: they don't make it too much.
+        keyIs("{a:{a:{a:{a:{a:{a:{a:{}}}}}}}}", "..", "a", ones(40), 8, "{a:" + ones(40) + "}");
+        keyIs("{a:{a:{}}}", "..", "a", ones(58), 3, "{a:" + ones(58) + "}");
+        keyIs("{a:{a:{}}}", "..", "a", ones(59), -1, "{a:{a:{}}}");
+        keyIs("{b:{a:{}}}", "..", "a", ones(29), -1, "{b:{a:{}}}");
+        keyIs("{b:{a:{}}}", "..", "a", ones(28), 3, "{b:{a:" + ones(28) + "},a:" + ones(28) + "}");
+        String full = ones(59).replace("1]", "{}]");
+        keyIs(full, "[-1]", "a", "1", -1, full);
         keyIs("[1]", "..", "a", "7", -1, "[1]");
         keyIs("{}", ".a", "a", "7", -1, "{}");
         keyIs("{}", "", "a", "{", -2, "{}");
@@ -807,6 +841,8 @@ public final class PromiseTest {
         changeIs("[1,[2,3],4]", "...*", 2, 5, "[]");
         changeIs("[1,[2,3],4]", "..?(@>1&@<4)", 2, 2, "[1,[],4]");
         changeIs("{a:1,b:{c:1}}", "...c", 2, 1, "{a:1,b:{}}");
+        changeIs(ones(59), "[-1]", 2, 1, ones(58));
+        changeIs(ones(59), "[:]", 2, 59, "[]");
         changeIs("[1,2]", "", 2, -1, "[1,2]");
         changeIs("[1,2]", "..", 2, -1, "[1,2]");
         changeIs("[1,2]", ".a", 2, -1, "[1,2]");
@@ -1127,6 +1163,11 @@ public final class PromiseTest {
         x.add(3, 1);
         x.note(7, true);
         Probe.due("restore", x.restore(), true);
+        Probe.due("all as it was", Probe.state(x), before);
+        x.forget();
+        x.note(2, true);
+        Probe.due("something else is noted", x.count(17), 1);
+        x.restore();
         Probe.due("all as it was", Probe.state(x), before);
         x.undo();
         x.forget();

@@ -101,16 +101,8 @@ public final class PromiseTest {
             Probe.due("told of " + one[0], Probe.all(x), one[1]);
             Probe.due("no fault", x.fault(), -1);
         }
-        Probe.due("60 things", Probe.tree(x, ones(59)), 0);
+        Probe.due("60 things", Probe.tree(x, Probe.ones(59)), 0);
         Probe.due("are there", x.count(0), 60);
-    }
-
-    private static String ones(int n) {
-        StringBuilder b = new StringBuilder("[1");
-        for (int k = 1; k < n; k++) {
-            b.append(",1");
-        }
-        return b.append(']').toString();
     }
 
     private static void p3TreeAnew() {
@@ -124,7 +116,7 @@ public final class PromiseTest {
         String before = Probe.state(x);
         Probe.due("a fault", Probe.tree(x, "[1,2"), 1);
         Probe.due("all stays but status 0 and the fault", Probe.state(x),
-                before.replace(" 0 1 1 5 2 fault -1", " 1 1 1 5 2 fault 4"));
+                before.replace(" status 0 1 1 fault -1", " status 1 1 1 fault 4"));
         Probe.due("the image too", x.count(9), 2);
         Probe.due("tree", Probe.tree(x, "{q:1}"), 0);
         Probe.due("no acts", x.count(10), 0);
@@ -188,11 +180,11 @@ public final class PromiseTest {
         faultOf(x, "[[[[[[[[-3]]]]]]]]", 2, 8);
         faultOf(x, "[[[[[[[[,", 1, 8);
         faultOf(x, "{a:{a:{a:{a:{a:{a:{a:{b:1}}}}}}}}", 2, 24);
-        faultOf(x, ones(60), 2, 119);
-        faultOf(x, ones(59).replace("]", ",-1]"), 2, 119);
-        faultOf(x, ones(59).replace("]", ",]"), 1, 119);
-        faultOf(x, ones(59).replace("]", ",-x]"), 2, 119);
-        faultOf(x, ones(58).replace("]", ",{a:1}]"), 2, 120);
+        faultOf(x, Probe.ones(60), 2, 119);
+        faultOf(x, Probe.ones(59).replace("]", ",-1]"), 2, 119);
+        faultOf(x, Probe.ones(59).replace("]", ",]"), 1, 119);
+        faultOf(x, Probe.ones(59).replace("]", ",-x]"), 2, 119);
+        faultOf(x, Probe.ones(58).replace("]", ",{a:1}]"), 2, 120);
         Probe.due("told as before the faults", Probe.all(x), "[[[[[[[[]]]]]]]]");
         Probe.due("status 0", x.count(13), faults);
     }
@@ -431,7 +423,7 @@ public final class PromiseTest {
         Probe.nse("below -1", () -> x.told(1, false, -2));
         Probe.nse("no such thing", () -> x.told(8, false, -1));
         Probe.nse("no such thing", () -> x.told(-1, true, -1));
-        NestQuery y = Probe.with(ones(59).replace("[1,", "[-10,"));
+        NestQuery y = Probe.with(Probe.ones(59).replace("[1,", "[-10,"));
         Probe.due("place of two digits", Probe.text(y, 59, true), "[58]");
         Probe.due("told", Probe.text(y, 1, false), "-10");
         Probe.tree(y, "[100,-909,999,-99,0]");
@@ -585,17 +577,8 @@ public final class PromiseTest {
         Probe.nse("no such path is there", () -> x.steps(-1, -1));
     }
 
-    /** Keeps the patch from one tree to another one: the object then has the second one. */
-    private static NestQuery patch(String from, String to) {
-        NestQuery x = Probe.with(from, "");
-        x.image();
-        Probe.due("put " + to, Probe.put(x, 0, to), 1);
-        Probe.due("keep", x.keep(), x.count(9));
-        return x;
-    }
-
     private static void rowsAre(String from, String to, String due) {
-        NestQuery x = patch(from, to);
+        NestQuery x = Probe.patch(from, to);
         Probe.due("rows from " + from + " to " + to, Probe.rows(x), due);
         boolean any = x.count(8) > 0;
         Probe.due("laid on", x.restore() && any ? x.apply(false) : -1, any ? x.count(8) : -1);
@@ -614,7 +597,7 @@ public final class PromiseTest {
     }
 
     private static void p13Row() {
-        NestQuery x = patch("{a:1,b:[1,2,3],c:{d:1,e:[1,2]}}", "{b:[1,{}],c:{e:[1,2,[3]],f:7},g:[1,[2]]}");
+        NestQuery x = Probe.patch("{a:1,b:[1,2,3],c:{d:1,e:[1,2]}}", "{b:[1,{}],c:{e:[1,2,[3]],f:7},g:[1,[2]]}");
         int[][] due = {{2, 1, 1, 0}, {3, 2, 1, 1}, {2, 2, 1, 0}, {2, 2, 1, 0}, {1, 3, 0, 2}, {1, 2, 0, 1}, {1, 1, 0, 4}};
         Probe.due("rows", x.count(8), due.length);
         for (int i = 0; i < due.length; i++) {
@@ -645,7 +628,7 @@ public final class PromiseTest {
         rowsAre("[[1,2],[3]]", "[[3],[1,2]]", "=[0][0] 3 | -[0][1] | =[1][0] 1 | +[1][1] 2");
         rowsAre("{a:{b:1},c:x}", "{c:{b:1},a:x}", "=.a x | =.c {b:1}");
         rowsAre("{abcdef:[[[[[[1]]]]]]}", "{abcdef:[[[[[[1,a]]]]]]}", "+.abcdef[0][0][0][0][0][1] a");
-        NestQuery x = patch("[1]", "[2]");
+        NestQuery x = Probe.patch("[1]", "[2]");
         Probe.nse("there is none", () -> x.rowText(1, -1));
         Probe.nse("there is none", () -> x.rowText(-1, -1));
         Probe.nse("no such byte", () -> x.rowText(0, 6));
@@ -685,17 +668,17 @@ public final class PromiseTest {
         putIs("[[[[[[1]]]]]]", "[0][0][0][0][0]", "[[2]]", 1, "[[[[[[[2]]]]]]]");
         putIs("[[[[[[1]]]]]]", "[0][0][0][0][0][0]", "[[2]]", -1, "[[[[[[1]]]]]]");
         putIs("[[[[[[1]]]]]]", "[0][0][0][0][0][0]", "[2]", 1, "[[[[[[[2]]]]]]]");
-        putIs(ones(57), "[0]", "[1,1,1]", -1, ones(57));
-        putIs(ones(57), "[0]", "[1,1]", 1, ones(57).replace("[1,1,", "[[1,1],1,"));
-        String big = ones(40).replace("]", ",[1,1,1,1,1,1,1,1,1]]");
+        putIs(Probe.ones(57), "[0]", "[1,1,1]", -1, Probe.ones(57));
+        putIs(Probe.ones(57), "[0]", "[1,1]", 1, Probe.ones(57).replace("[1,1,", "[[1,1],1,"));
+        String big = Probe.ones(40).replace("]", ",[1,1,1,1,1,1,1,1,1]]");
         putIs(big, "?(@)[38:]", "[1,1,1,1,1,1,1]", -1, big);
         putIs(big, "[39:]", "[1,1,1,1,1,1,1]", 2,
-                ones(39).replace("]", ",[1,1,1,1,1,1,1],[1,1,1,1,1,1,1]]"));
-        putIs(ones(59), "[-1]", "x", 1, ones(59).replace("1]", "x]"));
-        putIs(ones(59), "[-1]", "[]", 1, ones(59).replace("1]", "[]]"));
-        putIs("{}", "", ones(59), 1, ones(59));
-        putIs("[1]", "[0]", ones(58), 1, "[" + ones(58) + "]");
-        putIs("[1]", "[0]", ones(59), -1, "[1]");
+                Probe.ones(39).replace("]", ",[1,1,1,1,1,1,1],[1,1,1,1,1,1,1]]"));
+        putIs(Probe.ones(59), "[-1]", "x", 1, Probe.ones(59).replace("1]", "x]"));
+        putIs(Probe.ones(59), "[-1]", "[]", 1, Probe.ones(59).replace("1]", "[]]"));
+        putIs("{}", "", Probe.ones(59), 1, Probe.ones(59));
+        putIs("[1]", "[0]", Probe.ones(58), 1, "[" + Probe.ones(58) + "]");
+        putIs("[1]", "[0]", Probe.ones(59), -1, "[1]");
         NestQuery x = Probe.with("[1]");
         Probe.feed(x, "[1,");
         Probe.due("no such path is there", x.put(0, 3), -1);
@@ -726,14 +709,14 @@ public final class PromiseTest {
         appendIs("{a:1}", "", "{a:1,a:1}", -2, "{a:1}");
         appendIs("[[[[[[[]]]]]]]", "[0][0][0][0][0][0]", "1", 1, "[[[[[[[1]]]]]]]");
         appendIs("[[[[[[[]]]]]]]", "[0][0][0][0][0][0]", "[1]", -1, "[[[[[[[]]]]]]]");
-        appendIs(ones(58), "", "1", 1, ones(59));
-        appendIs(ones(58), "", "[1]", -1, ones(58));
-        appendIs(ones(59), "", "1", -1, ones(59));
-        String full = ones(59).replace("1]", "[]]");
+        appendIs(Probe.ones(58), "", "1", 1, Probe.ones(59));
+        appendIs(Probe.ones(58), "", "[1]", -1, Probe.ones(58));
+        appendIs(Probe.ones(59), "", "1", -1, Probe.ones(59));
+        String full = Probe.ones(59).replace("1]", "[]]");
         appendIs(full, "[-1]", "1", -1, full);
-        String list = "[" + ones(17) + "]";
-        appendIs("[[],[],[]]", ".*", ones(17), 3, "[" + list + "," + list + "," + list + "]");
-        appendIs("[[],[],[]]", ".*", ones(18), -1, "[[],[],[]]");
+        String list = "[" + Probe.ones(17) + "]";
+        appendIs("[[],[],[]]", ".*", Probe.ones(17), 3, "[" + list + "," + list + "," + list + "]");
+        appendIs("[[],[],[]]", ".*", Probe.ones(18), -1, "[[],[],[]]");
         NestQuery x = Probe.with("[1]");
         Probe.due("no such path is there", Probe.append(x, 1, "[1,"), -1);
         Probe.due("the text isn't read then", x.fault() * 10 + x.count(12), -10);
@@ -757,12 +740,12 @@ public final class PromiseTest {
         keyIs("{a:{a:{a:{}}}}", "..", "a", "7", 4, "{a:7}");
         keyIs("{a:{a:{a:{a:{a:{a:{a:{}}}}}}}}", "..", "a", "[[7]]", 8, "{a:[[7]]}");
         // Those within what another one has by the KEY are gone then: they don't make it too much.
-        keyIs("{a:{a:{a:{a:{a:{a:{a:{}}}}}}}}", "..", "a", ones(40), 8, "{a:" + ones(40) + "}");
-        keyIs("{a:{a:{}}}", "..", "a", ones(58), 3, "{a:" + ones(58) + "}");
-        keyIs("{a:{a:{}}}", "..", "a", ones(59), -1, "{a:{a:{}}}");
-        keyIs("{b:{a:{}}}", "..", "a", ones(29), -1, "{b:{a:{}}}");
-        keyIs("{b:{a:{}}}", "..", "a", ones(28), 3, "{b:{a:" + ones(28) + "},a:" + ones(28) + "}");
-        String full = ones(59).replace("1]", "{}]");
+        keyIs("{a:{a:{a:{a:{a:{a:{a:{}}}}}}}}", "..", "a", Probe.ones(40), 8, "{a:" + Probe.ones(40) + "}");
+        keyIs("{a:{a:{}}}", "..", "a", Probe.ones(58), 3, "{a:" + Probe.ones(58) + "}");
+        keyIs("{a:{a:{}}}", "..", "a", Probe.ones(59), -1, "{a:{a:{}}}");
+        keyIs("{b:{a:{}}}", "..", "a", Probe.ones(29), -1, "{b:{a:{}}}");
+        keyIs("{b:{a:{}}}", "..", "a", Probe.ones(28), 3, "{b:{a:" + Probe.ones(28) + "},a:" + Probe.ones(28) + "}");
+        String full = Probe.ones(59).replace("1]", "{}]");
         keyIs(full, "[-1]", "a", "1", -1, full);
         keyIs("[1]", "..", "a", "7", -1, "[1]");
         keyIs("{}", ".a", "a", "7", -1, "{}");
@@ -771,7 +754,7 @@ public final class PromiseTest {
         keyIs("{a:{b:{a:{b:{a:{b:{}}}}}}}", ".a.b.a.b.a.b", "c", "1", 1, "{a:{b:{a:{b:{a:{b:{c:1}}}}}}}");
         keyIs("{a:{b:{a:{b:{a:{b:{}}}}}}}", ".a.b.a.b.a.b", "c", "[]", 1, "{a:{b:{a:{b:{a:{b:{c:[]}}}}}}}");
         keyIs("{a:{b:{a:{b:{a:{b:{}}}}}}}", ".a.b.a.b.a.b", "c", "[1]", -1, "{a:{b:{a:{b:{a:{b:{}}}}}}}");
-        keyIs("[{},{},{},{}]", ".*", "c", ones(13), -1, "[{},{},{},{}]");
+        keyIs("[{},{},{},{}]", ".*", "c", Probe.ones(13), -1, "[{},{},{},{}]");
         keyIs("[{c:1},{},{},{}]", ".*", "c", "[]", 4, "[{c:[]},{c:[]},{c:[]},{c:[]}]");
         NestQuery x = Probe.with("{}", "");
         int[] bad = {0, -1, 27, 31, 1 << 30, 1 << 5, 1 << 10 | 1, Integer.MAX_VALUE, Integer.MIN_VALUE, 27 << 25 | 1, 5 << 5};
@@ -841,8 +824,8 @@ public final class PromiseTest {
         changeIs("[1,[2,3],4]", "...*", 2, 5, "[]");
         changeIs("[1,[2,3],4]", "..?(@>1&@<4)", 2, 2, "[1,[],4]");
         changeIs("{a:1,b:{c:1}}", "...c", 2, 1, "{a:1,b:{}}");
-        changeIs(ones(59), "[-1]", 2, 1, ones(58));
-        changeIs(ones(59), "[:]", 2, 59, "[]");
+        changeIs(Probe.ones(59), "[-1]", 2, 1, Probe.ones(58));
+        changeIs(Probe.ones(59), "[:]", 2, 59, "[]");
         changeIs("[1,2]", "", 2, -1, "[1,2]");
         changeIs("[1,2]", "..", 2, -1, "[1,2]");
         changeIs("[1,2]", ".a", 2, -1, "[1,2]");
@@ -921,7 +904,7 @@ public final class PromiseTest {
 
     /** The patch from one tree to another one laid on a third one. */
     private static void laidOn(String from, String to, String on, boolean turned, String then) {
-        NestQuery x = patch(from, to);
+        NestQuery x = Probe.patch(from, to);
         Probe.due("tree " + on, Probe.tree(x, on), 0);
         int due = then == null ? -1 : x.count(8);
         Probe.due("rows " + Probe.rows(x) + " on " + on, x.apply(turned), due);
@@ -961,12 +944,12 @@ public final class PromiseTest {
         laidOn("{a:1,b:2}", "{a:2,b:3}", "{a:1,b:9}", false, null);
         laidOn("{a:1,b:2}", "{a:2,b:3}", "{a:9,b:3}", true, null);
         // Too much on the way only: what goes makes room for what has come.
-        String few = ones(10);
-        laidOn("{b:{},a:" + few + "}", "{a:" + few + ",c:" + ones(30) + ",b:{}}", "{x:" + ones(29) + ",b:{}}", false, null);
-        laidOn("{b:{},a:" + few + "}", "{a:" + few + ",c:" + ones(30) + ",b:{}}", "{x:" + ones(27) + "}", false,
-                "{x:" + ones(27) + ",c:" + ones(30) + "}");
-        laidOn("{a:[],b:" + ones(30) + "}", "{a:" + ones(30) + "}", "{x:" + ones(26) + ",a:[],b:" + ones(30) + "}", false,
-                "{x:" + ones(26) + ",a:" + ones(30) + "}");
+        String few = Probe.ones(10);
+        laidOn("{b:{},a:" + few + "}", "{a:" + few + ",c:" + Probe.ones(30) + ",b:{}}", "{x:" + Probe.ones(29) + ",b:{}}", false, null);
+        laidOn("{b:{},a:" + few + "}", "{a:" + few + ",c:" + Probe.ones(30) + ",b:{}}", "{x:" + Probe.ones(27) + "}", false,
+                "{x:" + Probe.ones(27) + ",c:" + Probe.ones(30) + "}");
+        laidOn("{a:[],b:" + Probe.ones(30) + "}", "{a:" + Probe.ones(30) + "}", "{x:" + Probe.ones(26) + ",a:[],b:" + Probe.ones(30) + "}", false,
+                "{x:" + Probe.ones(26) + ",a:" + Probe.ones(30) + "}");
         NestQuery x = Probe.with("[1]", "[0]");
         Probe.due("nothing is kept", x.apply(false), -1);
         x.image();

@@ -102,6 +102,37 @@ final class Probe {
         return x;
     }
 
+    /** An object that has something of everything: an image, an act, rows, a note, refused calls, no path 3. */
+    static NestQuery lived() {
+        NestQuery x = with("[7,[2,{k:w}]]", "", "..[0]", "...k");
+        due("a faulty text", x.tree(0), 1);
+        due("a refused act", x.add(3, 1), -1);
+        due("a refused note", x.note(99, true), -1);
+        x.image();
+        due("an act", append(x, 0, "8"), 1);
+        due("rows", x.keep(), 1);
+        due("a note", x.note(1, true), 1);
+        return x;
+    }
+
+    /** A list of so many ones. */
+    static String ones(int n) {
+        StringBuilder b = new StringBuilder("[");
+        for (int k = 0; k < n; k++) {
+            b.append(k == 0 ? "1" : ",1");
+        }
+        return b.append(']').toString();
+    }
+
+    /** Keeps the patch from one tree to another one: the object then has the second one, path 0 is ROOT. */
+    static NestQuery patch(String from, String to) {
+        NestQuery x = with(from, "");
+        x.image();
+        due("put " + to, put(x, 0, to), 1);
+        due("keep", x.keep(), x.count(9));
+        return x;
+    }
+
     static String all(NestQuery x) {
         return text(x, 0, false);
     }
@@ -144,13 +175,17 @@ final class Probe {
         return b.toString();
     }
 
-    /** All that can be asked without a change, but for the tape: told twice alike, nothing changed. */
-    static String state(NestQuery x) {
+    /** STATUS 0 to 2. */
+    static String status(NestQuery x) {
+        return x.count(13) + " " + x.count(14) + " " + x.count(15);
+    }
+
+    /** All that can be asked without a change, but for the tape, STATUS, the FAULT. */
+    static String seen(NestQuery x) {
         StringBuilder b = new StringBuilder(all(x));
         for (int what = 0; what < 18; what++) {
-            b.append(' ').append(what == 12 ? 0 : x.count(what));
+            b.append(' ').append(what >= 12 && what <= 15 ? 0 : x.count(what));
         }
-        b.append(" fault ").append(x.fault());
         for (int slot = 0; slot < 4; slot++) {
             int s = slot;
             b.append(" path ").append(told(() -> x.steps(s, -1)));
@@ -159,5 +194,10 @@ final class Probe {
             }
         }
         return b.append(" kept ").append(rows(x)).append(" look ").append(x.look()).toString();
+    }
+
+    /** All that can be asked without a change, but for the tape. */
+    static String state(NestQuery x) {
+        return seen(x) + " status " + status(x) + " fault " + x.fault();
     }
 }

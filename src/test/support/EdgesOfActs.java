@@ -182,6 +182,10 @@ final class EdgesOfActs {
         s.answers("[1,[2]]", "..?(@=2)", "3");
         s.answers("[{a:1},{b:2}]", ".*?(@.a)", "1");
         s.answers("[{a:1},{b:2}]", "?(@[0].a)", "0");
+        // Each STEP by its own COND.
+        s.answers("[1,2,3,4]", ".*?(@>1)?(@<4)", "2,3");
+        s.answers("[1,2,3,4]", ".*?(@>1)?(@<4)?(!@=2)", "3");
+        s.answers("[{a:1,b:5},{a:2,b:5},{a:1}]", ".*?(@.a=1)?(@.b).a", "2");
     }
 
     private static void eachOnce() {

@@ -398,6 +398,9 @@ final class EdgesOfQuestions {
         for (int thing : new int[] {12, -1, MOST, LEAST}) {
             s.nse(x, "within " + thing, () -> x.within(thing, 0));
         }
+        NestQuery y = Probe.with(Probe.ones(59));
+        s.nse(y, "the 60th within one of 59", () -> y.within(0, 59));
+        s.nse(y, "within the last of all", () -> y.within(59, 0));
     }
 
     private static void tolds() {

@@ -16,36 +16,6 @@ import java.util.regex.Pattern;
 
 /** The face is the document's, no more and no less; the source keeps to the rules that can be seen in it. */
 public final class FaceTest {
-    private static final String[] FACE = {
-        "int feed(int,int,int,int,int)",
-        "int tree(int) throws IllegalArgumentException",
-        "int path(int,int) throws NoSuchElementException,IllegalArgumentException",
-        "int fault()",
-        "int count(int) throws NoSuchElementException",
-        "int thing(int,int) throws NoSuchElementException",
-        "int within(int,int) throws NoSuchElementException",
-        "int told(int,boolean,int) throws NoSuchElementException",
-        "int alike(int,int) throws NoSuchElementException",
-        "int answer(int,int) throws NoSuchElementException",
-        "int steps(int,int) throws NoSuchElementException",
-        "int row(int,int) throws NoSuchElementException",
-        "int rowText(int,int) throws NoSuchElementException",
-        "int put(int,int) throws IllegalArgumentException",
-        "int append(int,int) throws IllegalArgumentException",
-        "int key(int,int,int) throws IllegalArgumentException",
-        "int add(int,int)",
-        "int change(int,int)",
-        "int move(int,int,int)",
-        "int keep()",
-        "int apply(boolean)",
-        "int undo()",
-        "int note(int,boolean)",
-        "int look()",
-        "void forget()",
-        "int years(int,int,int) throws NoSuchElementException,IllegalArgumentException",
-        "void image()",
-        "boolean restore()"};
-
     public static void main(String[] args) throws IOException {
         Class<?> c = NestQuery.class;
         Probe.due("public and final", Modifier.toString(c.getModifiers()), "public final");
@@ -61,7 +31,12 @@ public final class FaceTest {
         Probe.finish();
     }
 
-    private static void methods(Class<?> c) {
+    private static void methods(Class<?> c) throws IOException {
+        List<String> face = Document.read().face();
+        Probe.due("calls of the face", face.size(), 28);
+        List<String> promised = new ArrayList<>(face);
+        promised.add(0, "NestQuery()");
+        Probe.due("each call has its promise", Document.read().promised(), promised);
         Set<String> open = new TreeSet<>();
         Set<String> names = new HashSet<>();
         for (Method m : c.getDeclaredMethods()) {
@@ -72,7 +47,7 @@ public final class FaceTest {
                 Probe.due(m + " is private", Modifier.isPrivate(m.getModifiers()), true);
             }
         }
-        Probe.due("the face", open, new TreeSet<>(Arrays.asList(FACE)));
+        Probe.due("the face", open, new TreeSet<>(face));
         for (Method m : c.getDeclaredMethods()) {
             if (!Modifier.isPublic(m.getModifiers())) {
                 Probe.due(m + " bears a public name", names.contains(m.getName()), false);

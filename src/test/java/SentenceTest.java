@@ -6,6 +6,7 @@ import java.io.IOException;
  */
 public final class SentenceTest {
     public static void main(String[] args) throws IOException {
+        EdgesOfWhole.run();
         EdgesOfTexts.run();
         EdgesOfActs.run();
         EdgesOfPatches.run();

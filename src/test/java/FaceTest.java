@@ -8,14 +8,20 @@ import java.nio.file.Files;
 import java.nio.file.Paths;
 import java.util.ArrayList;
 import java.util.Arrays;
+import java.util.HashMap;
 import java.util.HashSet;
 import java.util.List;
+import java.util.Map;
 import java.util.Set;
 import java.util.TreeSet;
 import java.util.regex.Pattern;
 
 /** The face is the document's, no more and no less; the source keeps to the rules that can be seen in it. */
 public final class FaceTest {
+    private static final Set<String> LIBRARY = Set.of("java/lang/Object.<init>", "java/lang/System.arraycopy",
+        "java/lang/Math.max", "java/lang/Math.min", "java/lang/Math.abs", "java/lang/Integer.bitCount", "java/lang/Long.bitCount",
+        "java/lang/IllegalArgumentException.<init>", "java/util/NoSuchElementException.<init>");
+
     public static void main(String[] args) throws IOException {
         Class<?> c = NestQuery.class;
         Probe.due("public and final", Modifier.toString(c.getModifiers()), "public final");
@@ -28,6 +34,7 @@ public final class FaceTest {
         fields(c);
         inside(c);
         source();
+        code(c);
         Probe.finish();
     }
 
@@ -120,5 +127,61 @@ public final class FaceTest {
             length = begins ? 0 : length + 1;
             Probe.due("a method as long as " + line, length <= 60 || !line.matches(" {4,8}\\}"), true);
         }
+    }
+
+    /** What the compiled classes call: of the library only what the language allows, and at most eight deep. */
+    private static void code(Class<?> c) throws IOException {
+        Map<String, Set<String>> calls = new HashMap<>(new ClassFile(c.getName()).calls);
+        for (Class<?> in : c.getDeclaredClasses()) {
+            calls.putAll(new ClassFile(in.getName()).calls);
+        }
+        Set<String> library = new TreeSet<>();
+        calls.values().forEach(library::addAll);
+        library.removeAll(calls.keySet());
+        library.removeAll(LIBRARY);
+        Probe.due("calls outside the language", library, "[]");
+        for (Method m : c.getDeclaredMethods()) {
+            if (Modifier.isPublic(m.getModifiers())) {
+                Probe.due("calls of " + m.getName() + " at most eight deep", deepest("NestQuery." + m.getName(), calls, new HashSet<>()) <= 8, true);
+            }
+        }
+    }
+
+    /** How deep calls go from a method on; those that lead back to a method, or to one it recurses with, are not counted. */
+    private static int deepest(String from, Map<String, Set<String>> calls, Set<String> open) {
+        int most = 0;
+        Set<String> together = recursing(from, calls);
+        open.addAll(together);
+        for (String one : together) {
+            for (String to : calls.getOrDefault(one, Set.of())) {
+                if (calls.containsKey(to) && !open.contains(to)) {
+                    most = Math.max(most, deepest(to, calls, new HashSet<>(open)));
+                }
+            }
+        }
+        return most + 1;
+    }
+
+    private static Set<String> recursing(String method, Map<String, Set<String>> calls) {
+        Set<String> together = new HashSet<>();
+        together.add(method);
+        for (String to : reached(method, calls)) {
+            if (reached(to, calls).contains(method)) {
+                together.add(to);
+            }
+        }
+        return together;
+    }
+
+    private static Set<String> reached(String from, Map<String, Set<String>> calls) {
+        Set<String> seen = new HashSet<>();
+        List<String> open = new ArrayList<>(calls.getOrDefault(from, Set.of()));
+        while (!open.isEmpty()) {
+            String next = open.remove(open.size() - 1);
+            if (seen.add(next)) {
+                open.addAll(calls.getOrDefault(next, Set.of()));
+            }
+        }
+        return seen;
     }
 }
